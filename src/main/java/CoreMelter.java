@@ -691,11 +691,8 @@ public final class CoreMelter {
         }
 
         private void draw(int line) {
-            if (lines.stuck[line] != 0 || stock <= 0) {
-                return;
-            }
             int water = Math.min(settings[FLOW], stock);
-            if (water <= 0) {
+            if (lines.stuck[line] != 0 || stock <= 0 || water <= 0) {
                 return;
             }
             int gas = stockGas * water / stock;

@@ -13,9 +13,11 @@ public final class CorePromisesTest {
         segmentAt();
         waterBelow();
         renew();
+        renewAll();
         undo();
         historyOfAllChanges();
         historyKeepsAll();
+        historyKeepsVials();
         set();
         C.close();
     }
@@ -47,7 +49,7 @@ public final class CorePromisesTest {
         C.promise(2);
         CoreMelter x = new CoreMelter();
         int[][] wrong = {
-            {-1, 1, 60, 1}, {3, 1, 60, 1}, {FAR, 1, 60, 1}, {Integer.MIN_VALUE, 1, 60, 1},
+            {-1, 1, 60, 1}, {3, 1, 60, 1}, {-1, 1, 60, 0}, {3, 1, 60, 0}, {3, 1, 0, 0}, {FAR, 1, 60, 1}, {Integer.MIN_VALUE, 1, 60, 1},
             {0, 0, 60, 0}, {0, 301, 60, 0}, {0, 1, 59, 0}, {0, 1, 93, 0}, {0, 1, 60, -1}, {0, 1, 60, 51}, {0, 1, 0, 0},
             {1, 0, 0, 0}, {1, 301, 0, 0}, {1, 1, 1, 0}, {1, 1, -1, 0}, {1, 1, 60, 0}, {1, 1, 0, 1}, {1, 1, 0, -1},
             {2, 0, 60, 1}, {2, 301, 60, 1}, {2, 1, 59, 1}, {2, 1, 93, 1}, {2, 1, 60, 0}, {2, 1, 60, 101}, {2, 1, 0, 1},
@@ -141,6 +143,14 @@ public final class CorePromisesTest {
         C.due("without a core", new CoreMelter().waterBelow(1), INVALID);
         x.run(3);
         C.due("melting does not alter it", x.waterBelow(15), 690);
+        x = new CoreMelter();
+        for (int i = 0; i < 20; i++) {
+            x.addSegment(0, 300, 92, 0);
+        }
+        C.due("of a full core", x.waterBelow(6000), 552000);
+        x.undo();
+        C.due("of one segment less", x.waterBelow(5700), 524400);
+        C.due("above the core", x.waterBelow(5701), INVALID);
     }
 
     private static void renew() {
@@ -168,6 +178,44 @@ public final class CorePromisesTest {
         C.segment("renewed", x, 0, 2, 300, 60, 100, 0, 0);
         C.due("it melts anew", x.run(1), 2);
         C.vial("renewed and run", x, 0, 120, 2, 0, 1);
+    }
+
+    /** Ice with bubbles ahead of clean ice, so that lines have gaps and waste, and the rest is collected. */
+    private static CoreMelter bubbling() {
+        CoreMelter x = new CoreMelter();
+        x.addSegment(0, 1, 80, 50);
+        x.addSegment(0, 4, 80, 0);
+        x.addSegment(2, 100, 80, 90);
+        Checks.settings(x, 200, 50, 300, 45, 500, 40, 100, 9);
+        x.run(1);
+        x.set(5, 5);
+        x.run(2);
+        return x;
+    }
+
+    private static void renewAll() {
+        C.promise(6);
+        CoreMelter x = bubbling();
+        C.counts("ahead of renew", x, 10, 9, 240, 180, 4, 156, 6, 1, 90, 3, 0, 0);
+        C.line("ahead of renew", x, 1, 0, 51, 2, 135, 90);
+        C.due("renew()", x.renew(), 9);
+        C.counts("renewed", x, 10, 0, 0, 0, 0, 0, 0, 0, 0, 0, 0, 0, 0);
+        C.accounts("renewed", x, 0, 0, 0, 0, 0, 0, 0);
+        for (int line = 0; line < 4; line++) {
+            C.line("renewed", x, line, 0, 0, 0, 0, 0);
+        }
+        x.set(3, 20);
+        C.due("80 of 80 drawn", x.run(1), 1);
+        x.renew();
+        x.set(3, 19);
+        C.due("76 of 80 drawn", x.run(1), 0);
+        C.due("but more has melted", x.count(10), 4);
+        x = new CoreMelter();
+        x.addSegment(0, 9, 61, 0);
+        x.set(3, 15);
+        x.run(3);
+        x.renew();
+        C.due("60 of 61 drawn", x.run(1), 0);
     }
 
     private static void undo() {
@@ -252,16 +300,46 @@ public final class CorePromisesTest {
         for (int i = 0; i < 4; i++) {
             x.undo();
         }
-        int[] behind = picture(x);
-        for (int i = 0; i < before.length; i++) {
-            C.due("part " + i + " of the picture", behind[i], before[i]);
-        }
+        asBefore(x, before);
         x.run(40);
         x.clean(0);
         C.due("line 0 was cleaned", x.line(0, 0), 0);
         x.undo();
         C.due("line 0 is stuck again", x.line(0, 0), 1);
         C.due("with its dirt", x.line(0, 1) >= 200 ? 1 : 0, 1);
+    }
+
+    private static void historyKeepsVials() {
+        C.promise(7);
+        CoreMelter x = bubbling();
+        int[] before = picture(x);
+        C.counts("vials and present vial", x, 16, 1, 90);
+        x.renew();
+        x.set(3, 15);
+        x.set(5, 200);
+        x.run(9);
+        C.vial("other vials", x, 0, 120, 1, 0, 2);
+        for (int i = 0; i < 4; i++) {
+            x.undo();
+        }
+        asBefore(x, before);
+        x.addSegment(0, 100, 80, 0);
+        x.set(2, 100);
+        x.set(3, 1);
+        x.run(3);
+        C.due("stopped for the stock", x.count(19), 3);
+        x.set(2, 20000);
+        x.run(1);
+        C.due("not stopped", x.count(19), 0);
+        x.undo();
+        C.due("the reason is back", x.count(19), 3);
+    }
+
+    private static void asBefore(CoreMelter x, int[] before) {
+        int[] behind = picture(x);
+        for (int i = 0; i < before.length; i++) {
+            C.due("part " + i + " of the picture", behind[i], before[i]);
+        }
     }
 
     private static int[] picture(CoreMelter x) {

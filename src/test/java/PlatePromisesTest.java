@@ -130,6 +130,14 @@ public final class PlatePromisesTest {
         Checks.settings(x, 6, 11);
         C.due("6 of 6.71 are enough", x.run(1), 1);
         C.counts("by one unit", x, 10, 1, 0);
+        x = new CoreMelter();
+        x.addSegment(0, 10, 92, 0);
+        Checks.settings(x, 184, 200);
+        C.due("184 are enough for 184", x.run(1), 1);
+        C.counts("by one unit", x, 10, 1, 0);
+        x.set(0, 183);
+        x.run(1);
+        C.counts("183 are not", x, 10, 1, 183);
     }
 
     private static void cracks() {
@@ -186,6 +194,14 @@ public final class PlatePromisesTest {
         C.counts("still there", x, 10, 2, 188, 80);
         x.run(1);
         C.counts("over it, and to the top", x, 10, 8, 0, 120);
+        x.renew();
+        x.set(2, 120);
+        x.run(1);
+        C.counts("a stock of just its limit", x, 10, 2, 188, 100);
+        x.set(2, 100);
+        x.run(1);
+        C.counts("stopped with just the limit", x, 10, 2, 188, 80);
+        C.due("for the stock", x.count(19), 3);
     }
 
     private static void storeAtTheTop() {
@@ -293,6 +309,19 @@ public final class PlatePromisesTest {
         x.set(5, 48);
         x.run(1);
         C.line("and this is more than 48", x, 0, 0, 0, 1, 122, 61);
+        x = new CoreMelter();
+        x.addSegment(0, 10, 92, 45);
+        Checks.settings(x, 46, 50, 2000, 500, 500, 44);
+        x.run(1);
+        C.accounts("41 of 41.4 gas", x, 92, 92, 0, 41, 41);
+        C.line("41 of 92 are 44 of 100", x, 0, 0, 0, 0, 92, 0);
+        x.set(5, 43);
+        x.run(1);
+        C.line("and this is more than 43", x, 0, 0, 0, 1, 184, 92);
+        x = new CoreMelter();
+        x.addSegment(0, 10, 60, 33);
+        x.run(1);
+        C.due("19 of 19.8 gas a unit", x.account(3), 57);
     }
 
     private static void lag() {

@@ -103,7 +103,8 @@ public final class TextPromisesTest {
 
     private static void words() {
         C.promise(22);
-        for (String text : new String[] {" ", ";", "1", "ic", "icee 1 60 0;", "Ice 1 60 0;", "icE 1 60 0;", "crackice 3;",
+        for (String text : new String[] {" ", ";", "1", "ic", "icee 1 60 0;", "icea 1 60 0;", "icez 1 60 0;",
+            "Ice 1 60 0;", "icE 1 60 0;", "crackice 3;",
             " ice 1 60 0;", "dus", "dusty 1 60 1;", "x", "`", "{", "snow 1 60 0;", "c", "cracks 1;", "cracl 1;"}) {
             fault(text, 0, 1, 0);
         }

@@ -66,6 +66,12 @@ public final class VialPromisesTest {
             before = told;
         }
         C.due("the end", before, 31);
+        x = new CoreMelter();
+        for (int i = 0; i < 20; i++) {
+            x.addSegment(0, 1, 60, 0);
+        }
+        x.run(20);
+        C.due("all of a full core", x.again(), 20);
     }
 
     /** One unit with 60 water melts in each tick, and line 0 collects it. */
@@ -185,6 +191,15 @@ public final class VialPromisesTest {
         C.due("by how much more is wasted", x.ifRun(1, 3), 0);
         C.due("how many more", x.ifRun(1, 4), 1);
         C.due("in how many of these ticks", x.ifRun(1000, 6), 999);
+        x.addSegment(0, 10, 60, 0);
+        x.set(4, 5000);
+        x.run(2);
+        C.accounts("some is collected", x, 640, 360, 280);
+        C.due("a vial is sealed", x.count(16), 2);
+        int[] more = {15, 15, 120, 0, 1, 1, 0};
+        for (int what = 0; what < 7; what++) {
+            C.due("ifRun(1, " + what + ") behind these", x.ifRun(1, what), more[what]);
+        }
     }
 
     private static void ifRunChangesNothing() {
