@@ -458,6 +458,7 @@ public final class CoreBoundaryTest {
         renewOfEverything();
         renewOfTicks();
         renewOfVials();
+        renewOfTheDepth();
         renewKeepsSettingsAndSegments();
         renewIsAChange();
     }
@@ -526,6 +527,20 @@ public final class CoreBoundaryTest {
         x.run(1);
         C.vial("the first again", x, 0, 60, 1, 0, 1);
         C.due("vial(1, 0)", x.vial(1, 0), INVALID);
+    }
+
+    private static void renewOfTheDepth() {
+        C.sentence(6, "lines, vials and the depth that is told are as initially");
+        CoreMelter x = new CoreMelter();
+        x.addSegment(0, 9, 61, 0);
+        x.set(3, 15);
+        C.due("180 of 61, 61 and 61", x.run(3), 2);
+        x.renew();
+        C.counts("nothing is drawn", x, 15, 0);
+        C.due("60 of 61", x.run(1), 0);
+        x.renew();
+        x.set(3, 16);
+        C.due("64 of 61", x.run(1), 1);
     }
 
     private static void renewKeepsSettingsAndSegments() {
@@ -630,23 +645,31 @@ public final class CoreBoundaryTest {
         }
     }
 
+    /** What the five changes leave is overwritten, and not only cut off: other vials, other waste, another core. */
     private static void undoRestoresAll() {
         C.sentence(7, "each change records everything before it but the text");
         CoreMelter x = States.busy();
-        x.run(1000);
-        x.set(7, 50);
         x.clean(3);
         x.renew();
+        x.set(3, 17);
         x.addSegment(1, 300, 0, 0);
+        x.run(1000);
+        C.due("ticks are otherwise", x.count(18), 1000);
+        C.due("all vials are overwritten", x.count(16) > 3 ? 1 : 0, 1);
+        C.due("vial 1 is another", x.vial(1, 0) != 360 && x.vial(1, 1) != 9 && x.vial(1, 3) != 3 ? 1 : 0, 1);
+        C.due("the waste of line 3 is another", x.line(3, 4) != 90 ? 1 : 0, 1);
+        CoreMelter y = States.busy();
+        for (int i = 0; i < 5; i++) {
+            y.set(0, 1);
+        }
         for (int left = 4; left >= 0; left--) {
             C.due("undo()", x.undo(), left);
+            y.undo();
         }
-        CoreMelter y = States.busy();
         C.counts("as it was", x, 0, 190, 50, 100, 45, 134, 40, 200, 9, 4, 115, 23, 614, 6, 3, 1, 22, 3, 180, 8, 3, 1, 3);
-        C.due("the same goes on", x.run(1000), y.run(1000));
-        for (int line = 0; line < 4; line++) {
-            C.line("the same goes on", x, line, y.line(line, 0), y.line(line, 1), y.line(line, 2), y.line(line, 3));
-        }
+        C.vial("as it was", x, 1, 360, 9, 2, 3);
+        C.line("as it was", x, 3, 1, 136, 1, 360, 90);
+        C.same("as it was", x, y);
     }
 
     private static void undoLeavesTheText() {

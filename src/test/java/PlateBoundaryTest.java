@@ -397,6 +397,7 @@ public final class PlateBoundaryTest {
         C.sentence(10, "as long as the front is below the top and the stock below its limit");
         CoreMelter x = crackAtLimit(120);
         C.counts("a stock of its limit: at the lower end", x, 10, 2, 0, 116);
+        C.counts("a stock above it: at the lower end", crackAtLimit(119), 10, 2, 0, 116);
         C.counts("a stock of one less: at the upper end", crackAtLimit(121), 10, 7, 0, 116);
         x.set(2, 116);
         x.run(1);

@@ -286,6 +286,7 @@ public final class TextBoundaryTest {
         densitiesInTexts();
         bubblesAndDirtInTexts();
         theFirstOutOfItsRange();
+        noNumberBehindOne();
     }
 
     private static void lengthsInTexts() {
@@ -333,6 +334,17 @@ public final class TextBoundaryTest {
         fault("dust 9 59 0;", 0, 3, 2);
         fault("rust", 0, 1, 0);
         fault("crack 1", 0, 5, 0);
+    }
+
+    private static void noNumberBehindOne() {
+        C.sentence(22, "or is the first one out of its range, from 1 on; otherwise 0");
+        for (String text : new String[] {"rust", "crack 1", "crack 1;;"}) {
+            CoreMelter x = typed("ice 1 60 51;");
+            C.due("a number", x.fault(2), 3);
+            x.clearText();
+            Checks.type(x, text);
+            C.due("none of '" + text + "'", x.fault(2), 0);
+        }
     }
 
     // ---- promise 22: where the fault is
