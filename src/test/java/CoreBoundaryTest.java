@@ -21,6 +21,7 @@ public final class CoreBoundaryTest {
     // ---- promise 1
 
     private static void newObject() {
+        constants();
         newHasNoCore();
         newHasInitialSettings();
         newFrontIsZero();
@@ -29,6 +30,17 @@ public final class CoreBoundaryTest {
         newTextIsEmpty();
         newVialIsEmpty();
         theLastOf512Calls();
+    }
+
+    private static void constants() {
+        C.sentence(1, "`INVALID_ARGUMENT = -1`");
+        C.due("INVALID_ARGUMENT", CoreMelter.INVALID_ARGUMENT, -1);
+        C.sentence(1, "`NOT_POSSIBLE = -2`");
+        C.due("NOT_POSSIBLE", CoreMelter.NOT_POSSIBLE, -2);
+        C.sentence(1, "`LIMIT_REACHED = -3`");
+        C.due("LIMIT_REACHED", CoreMelter.LIMIT_REACHED, -3);
+        C.sentence(1, "`NOT_FOUND = -4`");
+        C.due("NOT_FOUND", CoreMelter.NOT_FOUND, -4);
     }
 
     private static void newHasNoCore() {
@@ -273,6 +285,7 @@ public final class CoreBoundaryTest {
         segmentNumbers();
         segmentProperties();
         segmentOfACrack();
+        numberedFromTheLowerEnd();
         lowerEnds();
         meltedParts();
         meltedPartOfACrack();
@@ -314,6 +327,27 @@ public final class CoreBoundaryTest {
         C.segment("ice", x, 0, 0, 3, 60, 10);
         C.segment("a crack", x, 1, 1, 7, 0, 0);
         C.segment("dust", x, 2, 2, 5, 90, 100);
+    }
+
+    private static void numberedFromTheLowerEnd() {
+        C.sentence(3, "A core is a sequence of at most 20 segments, numbered from 0 at its lower end");
+        CoreMelter x = new CoreMelter();
+        for (int i = 0; i < 20; i++) {
+            x.addSegment(0, 100 + i, 60, 0);
+        }
+        for (int i = 0; i < 20; i++) {
+            C.due("length of segment " + i, x.segment(i, 1), 100 + i);
+        }
+        C.due("number 20", x.segment(20, 1), INVALID);
+        C.due("number -1", x.segment(-1, 1), INVALID);
+        C.sentence(3, "the depth of a place is the length of all that is below it");
+        int below = 0;
+        for (int i = 0; i < 20; i++) {
+            C.due("lower end of segment " + i, x.segment(i, 4), below);
+            C.due("its first unit", x.segmentAt(below), i);
+            below += 100 + i;
+        }
+        C.due("the length of all", x.count(9), below);
     }
 
     private static void lowerEnds() {
@@ -570,6 +604,7 @@ public final class CoreBoundaryTest {
     private static void undo() {
         undoOfNothing();
         undoOfOne();
+        statesThatAreLeft();
         fiveStates();
         sixStates();
         undoRestoresAll();
@@ -608,6 +643,19 @@ public final class CoreBoundaryTest {
         C.due("the latest", x.count(0), 7);
         C.due("undo()", x.undo(), 0);
         C.due("the one before", x.count(0), 100);
+    }
+
+    private static void statesThatAreLeft() {
+        C.sentence(7, "Returns the number of states that are left in the history");
+        for (int states = 1; states <= 6; states++) {
+            CoreMelter x = States.cracks(states);
+            for (int left = Math.min(states, 5) - 1; left >= 0; left--) {
+                C.due("undo() of " + states, x.undo(), left);
+                C.due("count(22)", x.count(22), left);
+            }
+            C.due("one more", x.undo(), -2);
+            C.due("segments", x.count(8), Math.max(0, states - 5));
+        }
     }
 
     private static void fiveStates() {
@@ -754,6 +802,7 @@ public final class CoreBoundaryTest {
             setOutOfItsRange(what);
         }
         setOfNoSetting();
+        setOfTheValueThatIs();
         setReturnsThePrevious();
     }
 
@@ -788,6 +837,15 @@ public final class CoreBoundaryTest {
             for (int value : new int[] {0, 50, 100}) {
                 C.changesNothing("set(" + what + ", " + value + ")", States::busy, y -> y.set(what, value), INVALID);
             }
+        }
+    }
+
+    private static void setOfTheValueThatIs() {
+        C.sentence(8, "`value`: a value in its range");
+        CoreMelter x = new CoreMelter();
+        for (int what = 0; what < 8; what++) {
+            C.due("the same value", x.set(what, INITIAL[what]), INITIAL[what]);
+            C.due("a value of another's range alone", x.set(what, what == 7 ? 100 : 0), what == 0 ? INITIAL[0] : INVALID);
         }
     }
 

@@ -39,7 +39,7 @@ public final class PlateBoundaryTest {
     }
 
     private static void linesToClean() {
-        C.sentence(9, "INVALID_ARGUMENT if line is out of range");
+        C.sentence(9, "`line`: 0 to 3");
         CoreMelter x = States.dusty(100);
         x.run(1);
         C.due("four stuck lines", x.count(21), 4);
@@ -48,6 +48,7 @@ public final class PlateBoundaryTest {
         C.line("the first", x, 0, 0, 0, 0);
         C.line("the last", x, 3, 0, 0, 0);
         C.due("two stuck lines", x.count(21), 2);
+        C.sentence(9, "INVALID_ARGUMENT if line is out of range");
         for (int line : new int[] {-1, 4, 5, MIN, MAX}) {
             C.changesNothing("clean(" + line + ")", States::busy, y -> y.clean(line), INVALID);
             C.due("without a core", new CoreMelter().clean(line), INVALID);
@@ -104,6 +105,7 @@ public final class PlateBoundaryTest {
         ticksOfARun();
         theLastTick();
         wrongTicksAtTheLimit();
+        allTicksInAll();
         runReturnsTheDepth();
     }
 
@@ -142,6 +144,20 @@ public final class PlateBoundaryTest {
         for (int ticks : new int[] {0, -1, 1001, MIN, MAX}) {
             C.changesNothing("run(" + ticks + ")", () -> States.old(20, 0), x -> x.run(ticks), INVALID);
         }
+    }
+
+    private static void allTicksInAll() {
+        C.sentence(10, "At most 20000 ticks go by in all.");
+        CoreMelter x = States.old(20, 0);
+        C.counts("20000", x, 18, 20000, 1, 20000);
+        x.addSegment(0, 9, 60, 0);
+        C.due("not for a new core", x.run(1), -3);
+        C.due("undo() of the last segment", x.undo(), 4);
+        C.due("undo() of the last run", x.undo(), 3);
+        C.due("1000 again", x.run(1000), 0);
+        x.renew();
+        C.due("from 0 on behind renew", x.run(1000), 0);
+        C.due("ticks", x.count(18), 1000);
     }
 
     private static void runReturnsTheDepth() {
@@ -308,6 +324,7 @@ public final class PlateBoundaryTest {
         meltsBelowTheLimit();
         meltsToTheTop();
         leapsOverACrack();
+        aCrackHasNothing();
         leapsBelowTheLimitAlone();
         enoughHeat();
         heatIsRoundedDown();
@@ -382,6 +399,17 @@ public final class PlateBoundaryTest {
         x.run(1);
         C.counts("a crack at the top", x, 10, 315, 0, 0);
         C.due("not stopped", x.count(20), 0);
+    }
+
+    private static void aCrackHasNothing() {
+        C.sentence(10, "1 crack without any ice: the front leaps over it");
+        for (int length : new int[] {1, 300}) {
+            CoreMelter x = new CoreMelter();
+            x.addSegment(1, length, 0, 0);
+            C.due("leapt over", x.run(1), length);
+            C.accounts("nothing has melted", x, 0, 0, 0, 0, 0, 0, 0);
+            C.counts("nothing is in the stock", x, 10, length, 0, 0, 0, 0, length, 0, 0, 1, 0, 0);
+        }
     }
 
     private static CoreMelter crackAtLimit(int limit) {
@@ -618,6 +646,7 @@ public final class PlateBoundaryTest {
         bubblesAtTheLimit();
         bubblesAreRoundedDown();
         aGapWastes();
+        noGapCollects();
         gapsAtTheLag();
         aLagThatIsLess();
         bubblesInAGap();
@@ -671,6 +700,21 @@ public final class PlateBoundaryTest {
         y.run(1);
         C.line("no gap", y, 0, 0, 0, 0, 60, 0);
         C.accounts("collected", y, 60, 60, 0);
+    }
+
+    private static void noGapCollects() {
+        C.sentence(10, "Otherwise the water is collected.");
+        CoreMelter x = new CoreMelter();
+        x.addSegment(0, 1, 60, 0);
+        x.set(3, 1);
+        x.run(1);
+        C.accounts("one each", x, 60, 4, 0);
+        C.counts("in the present vial", x, 17, 4);
+        x.run(14);
+        C.accounts("all", x, 60, 60, 0);
+        x.run(1);
+        C.accounts("nothing more", x, 60, 60, 0);
+        C.counts("in the present vial", x, 17, 60);
     }
 
     private static void gapsAtTheLag() {
@@ -876,6 +920,7 @@ public final class PlateBoundaryTest {
         numbersToCount();
         countsWhenEmpty();
         countsWhenFull();
+        countsOfAWholeCore();
         reasonOfTheLatestTick();
         ticksInWhichItWasStopped();
         stuckLines();
@@ -906,6 +951,19 @@ public final class PlateBoundaryTest {
         C.due("ticks", States.old(20, 0).count(18), 20000);
         C.sentence(11, "22: states in the history; 23: the length of the text");
         C.counts("full", States.full(), 22, 5, 100);
+    }
+
+    private static void countsOfAWholeCore() {
+        C.sentence(11, "10: the front; 11: the store; 12: the stock; 13: its gas; 14: its dirt; 15: the depth that is told");
+        CoreMelter x = ice(4, 60, 50);
+        x.addSegment(2, 3, 60, 10);
+        C.counts("nothing has melted", x, 10, 0, 0, 0, 0, 0, 0);
+        Checks.settings(x, 160, 50, 2000, 15);
+        x.run(1);
+        C.counts("five units; 60 of 300 drawn", x, 10, 5, 10, 240, 96, 10, 1);
+        x.set(3, 500);
+        x.run(1);
+        C.counts("all is drawn", x, 10, 7, 0, 0, 0, 0, 7);
     }
 
     private static void reasonOfTheLatestTick() {
@@ -961,7 +1019,7 @@ public final class PlateBoundaryTest {
     }
 
     private static void accountsInRange() {
-        C.sentence(12, "Returns the account; INVALID_ARGUMENT if what is out of range.");
+        C.sentence(12, "`what`: 0 to 6");
         C.accounts("busy", States.busy(), 1446, 1080, 360, 314, 311, 540, 539);
         for (int what : new int[] {-1, 7, 8, MIN, MAX}) {
             C.changesNothing("account(" + what + ")", States::busy, x -> x.account(what), INVALID);
@@ -1027,12 +1085,14 @@ public final class PlateBoundaryTest {
     private static void line() {
         linesInRange();
         propertiesInRange();
+        fourLines();
         stuckOrNot();
+        drawnAndWasted();
         cleaningLeavesWhatWasDrawn();
     }
 
     private static void linesInRange() {
-        C.sentence(13, "There are 4 lines, numbered from 0");
+        C.sentence(13, "`line`: 0 to 3");
         CoreMelter x = States.busy();
         C.line("the first", x, 0, 0, 133, 1, 360, 90);
         C.line("the last", x, 3, 1, 136, 1, 360, 90);
@@ -1054,6 +1114,30 @@ public final class PlateBoundaryTest {
             C.due("line(3, " + what + ")", x.line(3, what), INVALID);
             C.due("line(4, " + what + ")", x.line(4, what), INVALID);
         }
+    }
+
+    private static void fourLines() {
+        C.sentence(13, "There are 4 lines, numbered from 0");
+        CoreMelter x = ice(1, 61, 0);
+        x.set(3, 15);
+        x.run(1);
+        for (int line = 0; line < 4; line++) {
+            C.line("a quarter of it", x, line, 0, 0, 0, 15, 0);
+        }
+        C.due("there is no fifth", x.line(4, 3), INVALID);
+        C.counts("one is left", x, 12, 1);
+    }
+
+    private static void drawnAndWasted() {
+        C.sentence(13, "3: the water that it has drawn in all; 4: what of this was wasted");
+        CoreMelter x = gap(1);
+        C.line("all", x, 0, 0, 0, 1, 60, 60);
+        C.line("nothing", x, 1, 0, 0, 0, 0, 0);
+        x.run(2);
+        C.line("two of three", x, 0, 0, 0, 0, 180, 120);
+        x = States.steady(50);
+        x.run(300);
+        C.line("nothing of all", x, 0, 0, 0, 0, 18000, 0);
     }
 
     private static void stuckOrNot() {

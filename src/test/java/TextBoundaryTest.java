@@ -220,7 +220,7 @@ public final class TextBoundaryTest {
     }
 
     private static void oneBlankAhead() {
-        C.sentence(22, "2 if a number or the blank ahead of it is missing");
+        C.sentence(22, "and its numbers, each with one blank ahead of it");
         fault("crack1;", 0, 2, 1);
         fault("crack  1;", 0, 2, 1);
         fault("crack,1;", 0, 2, 1);
@@ -282,11 +282,21 @@ public final class TextBoundaryTest {
     // ---- promise 22: ranges
 
     private static void ranges() {
+        outOfRange();
         lengthsInTexts();
         densitiesInTexts();
         bubblesAndDirtInTexts();
         theFirstOutOfItsRange();
         noNumberBehindOne();
+    }
+
+    private static void outOfRange() {
+        C.sentence(22, "3 if a number is out of its range");
+        fault("crack 0;", 0, 3, 1);
+        fine("crack 1;", 1, 1, 0, 0);
+        fine("crack 300;", 1, 300, 0, 0);
+        fault("crack 301;", 0, 3, 1);
+        fault("crack 1;crack 999;crack 1;", 8, 3, 1);
     }
 
     private static void lengthsInTexts() {
@@ -353,6 +363,7 @@ public final class TextBoundaryTest {
         theFirstCharacterOfTheSegment();
         theLastCharacterOfAFullText();
         segmentsOfTheCoreAreCounted();
+        eachIsFollowed();
         theEndOfASegment();
     }
 
@@ -415,6 +426,17 @@ public final class TextBoundaryTest {
         x.undo();
         C.fault("and is as it was", x, -4, -4, -4);
         C.changesNothing("lay() of one too many", () -> onACore(9, many("crack 1;", 12)), CoreMelter::lay, -2);
+    }
+
+    private static void eachIsFollowed() {
+        C.sentence(22, "a sequence of segments, each followed by \";\"");
+        fine("crack 1;crack 2;", 1, 1, 0, 0, 1, 2, 0, 0);
+        fault("crack 1;crack 2", 8, 5, 0);
+        fault("crack 1crack 2;", 0, 5, 0);
+        fault("crack 1 crack 2;", 0, 5, 0);
+        fault("crack 1;;crack 2;", 8, 1, 0);
+        fault(";crack 1;", 0, 1, 0);
+        fault("crack 1; ", 8, 1, 0);
     }
 
     private static void theEndOfASegment() {

@@ -250,6 +250,7 @@ public final class VialBoundaryTest {
     private static void vial() {
         vialsInRange();
         propertiesInRange();
+        inTheOrderOfSealing();
         theVialBefore();
     }
 
@@ -291,6 +292,14 @@ public final class VialBoundaryTest {
         }
     }
 
+    private static void inTheOrderOfSealing() {
+        C.sentence(15, "`vial`: number of the vial, from 0 in the order in which they were sealed");
+        CoreMelter x = vials(40);
+        for (int vial = 0; vial < 40; vial++) {
+            C.vial("vial " + vial, x, vial, 60, vial + 1, vial, vial + 1);
+        }
+    }
+
     private static void theVialBefore() {
         C.sentence(15, "2: the depth of the vial before (0 for the first one)");
         CoreMelter x = States.steady(200);
@@ -307,6 +316,7 @@ public final class VialBoundaryTest {
     private static void vialAt() {
         vialOfADepth();
         vialsOfOneDepth();
+        depthsFromZeroOn();
         noVialOfADepth();
         negativeDepthOfAVial();
     }
@@ -339,6 +349,16 @@ public final class VialBoundaryTest {
         C.due("behind all", x.vialAt(2), -4);
     }
 
+    private static void depthsFromZeroOn() {
+        C.sentence(16, "`depth`: 0 or more");
+        CoreMelter x = States.steady(100);
+        x.run(2);
+        C.due("0", x.vialAt(0), 0);
+        C.due("1", x.vialAt(1), 0);
+        C.due("the depth of the last one", x.vialAt(2), -4);
+        C.due("more than the core is long", x.vialAt(301), -4);
+    }
+
     private static void noVialOfADepth() {
         C.sentence(16, "NOT_FOUND if there is none");
         C.due("without a core", new CoreMelter().vialAt(0), -4);
@@ -367,6 +387,9 @@ public final class VialBoundaryTest {
         theLastTicksIfRun();
         wrongArgumentsAtTheLimit();
         ifRunIsAsRun();
+        depthsIfRun();
+        waterIfRun();
+        stuckLinesIfRun();
         ifRunWithoutACore();
         ifRunChangesNothing();
         ifRunBehindFortyVials();
@@ -437,6 +460,53 @@ public final class VialBoundaryTest {
         }
     }
 
+    private static void depthsIfRun() {
+        C.sentence(17, "0: the depth that is told then; 1: the front then");
+        CoreMelter x = ice(33, 60, 15);
+        C.due("told: 60 drawn", x.ifRun(1, 0), 1);
+        C.due("front", x.ifRun(1, 1), 33);
+        C.due("told: all but 60 drawn", x.ifRun(32, 0), 32);
+        C.due("told: all drawn", x.ifRun(33, 0), 33);
+        C.due("told: and nothing more", x.ifRun(1000, 0), 33);
+        C.due("front", x.ifRun(1000, 1), 33);
+    }
+
+    private static void waterIfRun() {
+        C.sentence(17, "2: by how much more is collected; 3: by how much more is wasted");
+        CoreMelter x = new CoreMelter();
+        x.addSegment(0, 1, 60, 50);
+        x.addSegment(0, 2, 60, 0);
+        Checks.settings(x, 30, 50, 2000, 60, 500, 40, 500, 1);
+        int[] collected = {0, 0, 60, 60};
+        int[] wasted = {60, 120, 120, 120};
+        for (int ticks = 1; ticks <= 4; ticks++) {
+            C.due("collected in " + ticks, x.ifRun(ticks, 2), collected[ticks - 1]);
+            C.due("wasted in " + ticks, x.ifRun(ticks, 3), wasted[ticks - 1]);
+        }
+        x.run(2);
+        C.due("collected from here", x.ifRun(1, 2), 60);
+        C.due("wasted from here", x.ifRun(1, 3), 0);
+        x.run(1);
+        C.due("collected behind all", x.ifRun(1, 2), 0);
+        C.due("wasted behind all", x.ifRun(1, 3), 0);
+    }
+
+    private static void stuckLinesIfRun() {
+        C.sentence(17, "5: the stuck lines then");
+        CoreMelter x = new CoreMelter();
+        x.addSegment(2, 300, 60, 50);
+        x.set(0, 30);
+        x.set(4, 50);
+        C.due("none yet", x.count(21), 0);
+        int[] want = {1, 2, 3, 4, 4};
+        for (int ticks = 1; ticks <= 5; ticks++) {
+            C.due("stuck lines in " + ticks, x.ifRun(ticks, 5), want[ticks - 1]);
+        }
+        x.run(4);
+        C.due("those that are stuck already", x.ifRun(1, 5), 4);
+        C.due("in how many it is stopped", x.ifRun(3, 6), 3);
+    }
+
     private static void ifRunWithoutACore() {
         C.sentence(17, "6: in how many of the ticks melting is stopped");
         CoreMelter x = new CoreMelter();
@@ -471,12 +541,23 @@ public final class VialBoundaryTest {
     // ---- promise 18
 
     private static void ticksTo() {
+        ticksToDepthsFromZeroOn();
         ticksToWhatIsSo();
         ticksToTheTop();
         ticksToTwoThousand();
         ticksToTheLast();
         ticksToANegativeDepth();
         ticksToChangesNothing();
+    }
+
+    private static void ticksToDepthsFromZeroOn() {
+        C.sentence(18, "`depth`: 0 or more");
+        C.due("0 without a core", new CoreMelter().ticksTo(0), 0);
+        C.due("-1 without a core", new CoreMelter().ticksTo(-1), INVALID);
+        CoreMelter x = States.steady(500);
+        for (int depth = 0; depth <= 5; depth++) {
+            C.due("depth " + depth, x.ticksTo(depth), depth);
+        }
     }
 
     private static void ticksToWhatIsSo() {
