@@ -21,7 +21,8 @@ final class Picture {
         for (int what = 0; what <= 23; what++) {
             add("count(" + what + ")", x.count(what));
         }
-        for (int segment = 0; segment < x.count(8); segment++) {
+        int segments = x.count(8);
+        for (int segment = 0; segment < segments; segment++) {
             for (int what = 0; what <= 5; what++) {
                 add("segment(" + segment + ", " + what + ")", x.segment(segment, what));
             }
@@ -37,7 +38,8 @@ final class Picture {
                 add("line(" + line + ", " + what + ")", x.line(line, what));
             }
         }
-        for (int vial = 0; vial < x.count(16); vial++) {
+        int vials = x.count(16);
+        for (int vial = 0; vial < vials; vial++) {
             for (int what = 0; what <= 3; what++) {
                 add("vial(" + vial + ", " + what + ")", x.vial(vial, what));
             }

@@ -2,7 +2,7 @@
 final class States {
     private States() { }
 
-    /** Nothing is 0: open lines with gaps and stuck ones, a stock, vials, a full history, half a segment as the text. */
+    /** Nothing is 0: an open line with a gap, stuck ones, a stock, vials, a full history, a text with a fault. */
     static CoreMelter busy() {
         CoreMelter x = new CoreMelter();
         x.addSegment(0, 6, 80, 4);
@@ -33,7 +33,7 @@ final class States {
         return x;
     }
 
-    /** A core of 20 cracks of length 1, less those that are left out. */
+    /** So many cracks of length 1. */
     static CoreMelter cracks(int many) {
         CoreMelter x = new CoreMelter();
         for (int i = 0; i < many; i++) {

@@ -103,7 +103,8 @@ public final class VialBoundaryTest {
         C.sentence(14, "Finds the depth that is told in a second way");
         CoreMelter x = new CoreMelter();
         for (int i = 0; i < 20; i++) {
-            x.addSegment(i % 3, 4, i % 3 == 1 ? 0 : 60 + i, i % 3 == 1 ? 0 : 3 * i + (i == 0 ? 0 : 1) - (i == 18 ? 9 : 0));
+            boolean crack = i % 3 == 1;
+            x.addSegment(i % 3, 4, crack ? 0 : 60 + i, crack ? 0 : 2 * i + 1);
         }
         Checks.settings(x, 33, 37, 150, 11, 5000);
         C.counts("a full core", x, 8, 20, 80);
