@@ -30,12 +30,19 @@ public final class FormTest {
     private static final Set<String> LIBRARY = Set.of("String", "StringBuilder", "Integer", "Long", "Math", "System",
         "Arrays", "ArrayList", "List", "Iterator", "Iterable", "Comparable");
 
+    private static final Set<Class<?>> OF_CONSTANTS =
+        Set.of(int.class, long.class, boolean.class, char.class, String.class);
+    private static final Set<Class<?>> OF_STATIC_ARRAYS = Set.of(int.class, long.class, char.class, byte.class);
+
     private static int passed = 0;
     private static int failed = 0;
 
     public static void main(String[] args) throws IOException {
         face();
         classesInside();
+        for (Class<?> c : CoreMelter.class.getNestMembers()) {
+            fields(c);
+        }
         source(Files.readString(Path.of(args[0])));
         System.out.println("FormTest: " + passed + " passed, " + failed + " failed");
         if (failed > 0) {
@@ -89,6 +96,7 @@ public final class FormTest {
     private static void classesInside() {
         Class<?>[] inside = CoreMelter.class.getDeclaredClasses();
         holds("at most twelve classes", inside.length + 1 <= 12);
+        holds("no local or anonymous classes", CoreMelter.class.getNestMembers().length == inside.length + 1);
         Set<String> faceNames = new HashSet<>();
         for (String member : FACE) {
             faceNames.add(member.replaceAll("[( ].*", ""));
@@ -99,15 +107,50 @@ public final class FormTest {
                 Modifier.isStatic(is) && !Modifier.isPublic(is) && !Modifier.isProtected(is));
             int fields = 0;
             for (Field f : c.getDeclaredFields()) {
-                boolean constant = Modifier.isStatic(f.getModifiers());
-                holds(f + " is final, if it is static", !constant || Modifier.isFinal(f.getModifiers()));
-                fields += constant ? 0 : 1;
+                fields += Modifier.isStatic(f.getModifiers()) ? 0 : 1;
             }
             holds(c + " has at most twenty fields", fields <= 20);
             for (Method m : c.getDeclaredMethods()) {
                 holds(m + " has another name than those of the face", !faceNames.contains(m.getName()));
                 holds(m + " takes at most seven parameters", m.getParameterCount() <= 7);
             }
+        }
+    }
+
+    /** Rules 3 and 5: the types of the fields, and that static ones are final. */
+    private static void fields(Class<?> c) {
+        for (Field f : c.getDeclaredFields()) {
+            Class<?> type = f.getType();
+            if (Modifier.isStatic(f.getModifiers())) {
+                holds(f + " is final", Modifier.isFinal(f.getModifiers()));
+                holds(f + " is a constant or an array of numbers", type.isArray()
+                    ? OF_STATIC_ARRAYS.contains(type.getComponentType()) : OF_CONSTANTS.contains(type));
+                continue;
+            }
+            Class<?> plain = type.isArray() ? type.getComponentType() : type;
+            holds(f + " has a type that is allowed",
+                plain.isPrimitive() || plain == String.class || plain.getNestHost() == CoreMelter.class);
+        }
+    }
+
+    /** Rule 11 asks for some sixty lines, rule 12 for few objects: here rows are made with the object alone. */
+    private static void methods(String code) {
+        String name = "";
+        int lines = 0;
+        Pattern head = Pattern.compile("^\\s+(?:(?:public|private|static|final)\\s+)*(?:\\w+(?:\\[\\])?\\s+)?(\\w+)\\(.*\\{$");
+        for (String line : code.split("\n")) {
+            Matcher begin = head.matcher(line);
+            boolean member = line.matches("(    |        )\\S.*") && begin.find();
+            if (member && !line.matches("\\s+(if|for|while|switch|else|do)\\b.*")) {
+                name = begin.group(1);
+                lines = 0;
+            }
+            lines++;
+            holds(name + " has at most sixty lines", lines <= 60 || name.isEmpty());
+            boolean making = Pattern.compile("\\bnew\\b").matcher(line).find();
+            boolean row = line.matches("\\s+(private )?final \\S+ \\w+ = new .*");
+            boolean constructor = !name.isEmpty() && Character.isUpperCase(name.charAt(0));
+            holds(name + " makes something: " + line, !making || row || constructor);
         }
     }
 
@@ -127,6 +170,7 @@ public final class FormTest {
                 "java.util.Iterator").contains(imports.group(1)));
         }
         names(code.replaceAll("import .*", ""));
+        methods(code);
         holds("all signs are of 1 to 127", whole.chars().allMatch(sign -> sign > 0 && sign < 128));
         for (String line : whole.split("\n")) {
             holds("a line of more than 120 signs: " + line, line.length() <= 120);
